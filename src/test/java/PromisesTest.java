@@ -110,6 +110,41 @@ public final class PromisesTest {
         due("FULL", FrameDesk.FULL, -1000000004);
     }
 
+    /** What is behind the last row, from rows that went or past the room for 40, is in no answer. */
+    private static void rowsThatWent() {
+        FrameDesk x = new FrameDesk();
+        for (int i = 0; i < 4; i++) {
+            x.put(3, 5, 8);
+        }
+        x.put(3, M, 8);
+        x.take(4);
+        x.take(3);
+        due("gone: PEERS", x.row(0, 6), 3);
+        due("gone: heap", x.heap(2, 3), 2);
+        due("gone: PARTS", x.told(1), 1);
+        due("gone: GROUPS", x.told(2), 1);
+        due("gone: ALIKE", x.told(8), 0);
+        due("gone: CHANGED", x.row(0, 8), 2);
+        due("gone: would", x.would(3, M), 3);
+        due("gone: ahead", x.ahead(true), 0);
+        due("gone: frame", x.frame(0, OPEN, OPEN, 0), 9);
+        due("gone: best", x.best(0), 0);
+        FrameDesk full = greatest();
+        due("full: PEERS", full.row(39, 6), 40);
+        due("full: heap", full.heap(39, 20), 19);
+        due("full: PARTS", full.told(1), 1);
+        due("full: GROUPS", full.told(2), 1);
+        due("full: CHANGED", full.row(0, 8), 39);
+        due("full: CHANGED by the last", full.row(39, 8), 0);
+        due("full: would", full.would(0, 0), 40);
+        due("full: ahead", full.ahead(true), 0);
+        due("full: frame", full.frame(1, OPEN, OPEN, 0), 1600);
+        due("full: ALIKE", full.told(8), 780);
+        due("full: rows", full.rows(0), (1L << 40) - 1);
+        due("full: MIDDLE", full.of(39, 8), 999);
+        due("full: the last in the FRAME", full.inFrame(0, 39), 39);
+    }
+
     private static void promise1New() {
         FrameDesk x = new FrameDesk();
         int[] wanted = {0, 0, 0, 0, 199, 100, 0, 0, 0, 0, NONE, 0};
@@ -162,8 +197,12 @@ public final class PromisesTest {
             y.put(part, M, 5);
             y.put(part, M, 5);
         }
+        y.put(0, 7, 7);
         due("2 six PARTS", y.told(1), 6);
-        due("2 MISSING is a GROUP", y.told(2), 12);
+        due("2 MISSING is a GROUP", y.told(2), 13);
+        FrameDesk z = line(3);
+        z.put(4, 0, 0);
+        due("2 a PART of one", z.told(1), 2);
     }
 
     private static void promise3Row() {
@@ -381,6 +420,10 @@ public final class PromisesTest {
         due("10 from the greatest SEED", y.drift(1), 1);
         long once = (2147483647L * 1103515245L + 12345L) % 2147483648L;
         due("10 the PART of it", y.row(0, 0), once / 65536 % 3);
+        y.drift(20);
+        for (int r = 0; r < 21; r++) {
+            due("10 drawn rows stand", y.standing(y.row(r, 7)), r);
+        }
         drawsCoverAll();
     }
 
@@ -824,6 +867,7 @@ public final class PromisesTest {
 
     public static void main(String[] args) {
         face();
+        rowsThatWent();
         promise1New();
         promise2Told();
         promise3Row();
